@@ -235,11 +235,13 @@ public final class CellSettling {
         long least = squares;
         int counted = 0;
         for (int i = 0; i < rounds; i++) {
-            long after = leastOfRound(least);
-            if (after >= least) {
+            long before = least;
+            for (int kind = 0; kind < KINDS; kind++) {
+                least = leastByKind(kinds[kind], least);
+            }
+            if (least >= before) {
                 break;
             }
-            least = after;
             counted++;
         }
         // The last try may have been one that was not kept.
@@ -247,38 +249,23 @@ public final class CellSettling {
         return counted;
     }
 
-    /** The sum that a round comes to: as it was when no factor of the round was kept, else less. */
-    private long leastOfRound(long before) {
-        long least = before;
-        for (int i = 0; i < KINDS; i++) {
-            least = leastByKind(kinds[i], least);
-        }
-        return least;
-    }
-
-    /** Leaves the kind with the factor that is kept; the columns may be those of a try that is not. */
+    /**
+     * The lesser sum that a kind's next factor comes to, or the one before. Leaves the kind with the
+     * factor that is kept; the columns may be those of a try that is not.
+     */
     private long leastByKind(Kind kind, long before) {
         int factor = kind.factor;
-        if (factor + FACTOR_STEP <= MOST_FACTOR) {
-            long above = sumByFactor(kind, factor + FACTOR_STEP);
-            if (above < before) {
-                return above;
-            }
-        }
-        if (factor - FACTOR_STEP >= 0) {
-            long below = sumByFactor(kind, factor - FACTOR_STEP);
-            if (below < before) {
-                return below;
+        for (int step = FACTOR_STEP; step >= -FACTOR_STEP; step -= 2 * FACTOR_STEP) {
+            if (isWithin(factor + step, 0, MOST_FACTOR)) {
+                kind.factor = factor + step;
+                doAllAnew();
+                if (squares < before) {
+                    return squares;
+                }
             }
         }
         kind.factor = factor;
         return before;
-    }
-
-    private long sumByFactor(Kind kind, int factor) {
-        kind.factor = factor;
-        doAllAnew();
-        return squares;
     }
 
     private void doAllAnew() {
