@@ -9,12 +9,8 @@ final class Due {
 
     static void is(String call, long got, long want) {
         asked++;
-        if (got == want) {
-            return;
-        }
-        wrong++;
-        if (wrong <= MOST_PRINTED) {
-            System.out.println(call + " answered " + got + ", due is " + want);
+        if (got != want) {
+            tellWrong(call + " answered " + got + ", due is " + want);
         }
     }
 
@@ -24,6 +20,20 @@ final class Due {
 
     static void no(String call, boolean got) {
         is(call, got ? 1 : 0, 0);
+    }
+
+    static void same(String what, Object got, Object want) {
+        asked++;
+        if (!got.equals(want)) {
+            tellWrong(what + ": " + got + ", due is " + want);
+        }
+    }
+
+    private static void tellWrong(String line) {
+        wrong++;
+        if (wrong <= MOST_PRINTED) {
+            System.out.println(line);
+        }
     }
 
     static boolean anyWrong() {

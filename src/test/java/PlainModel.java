@@ -20,6 +20,28 @@ final class PlainModel {
         this.side = side >= 1 && side <= 100 ? side : 1;
     }
 
+    /** The same again, so that a call can be tried on it. */
+    PlainModel(PlainModel other) {
+        this(other.columns, other.side);
+        for (int i = 0; i < 4; i++) {
+            densities[i] = other.densities[i];
+            factors[i] = other.factors[i];
+        }
+        told.addAll(other.told);
+        phases.addAll(other.phases);
+        for (Integer[][] points : other.surfaces) {
+            Integer[][] same = new Integer[5][];
+            for (int i = 0; i < 5; i++) {
+                same[i] = points[i].clone();
+            }
+            surfaces.add(same);
+        }
+    }
+
+    int columns() {
+        return columns;
+    }
+
     /** What stands after all that was told: layers are {kind, kilograms, thickness, passes}. */
     private final class Fill {
         private final List<List<long[]>> layers = new ArrayList<>();

@@ -1,23 +1,25 @@
 import java.util.Random;
 
-/** Runs of 512 calls by fixed seeds, each answer held against the plain model's. */
+/** Runs of up to 512 calls by fixed seeds, each answer held against the plain model's. */
 public final class RandomRunsTest {
-    private static final int RUNS = 240;
-    private static final int CALLS = 512;
+    private static final int RUNS = 300;
     private static final int[] EDGES = {Integer.MIN_VALUE, -1, 0, 1, Integer.MAX_VALUE};
+    private static final int FIT_EVERY = 4;
 
+    private final int seed;
     private final Random random;
     private final int columns;
-    private final CellSettling x;
+    private final Cell cell;
     private final PlainModel model;
     private final boolean fine;
     private int sinceFit = 0;
 
     private RandomRunsTest(int seed) {
+        this.seed = seed;
         random = new Random(seed);
         columns = seed % 10;
         int side = seed % 3 == 0 ? 1 + random.nextInt(3) : random.nextInt(103);
-        x = new CellSettling(columns, side);
+        cell = new Cell(columns, side);
         model = new PlainModel(columns, side);
         fine = seed % 4 != 0;
     }
@@ -25,11 +27,19 @@ public final class RandomRunsTest {
     public static void main(String[] args) {
         for (int seed = 0; seed < RUNS && !Due.anyWrong(); seed++) {
             RandomRunsTest run = new RandomRunsTest(seed);
-            for (int i = 0; i < CALLS && !Due.anyWrong(); i++) {
-                run.call("seed " + seed + " call " + i + ": ");
+            while (run.cell.callsLeft() > 0 && !Due.anyWrong()) {
+                run.step();
             }
         }
         Due.end();
+    }
+
+    private void both(String name, long... numbers) {
+        if (cell.callsLeft() == 0) {
+            return;
+        }
+        Call call = new Call(name, numbers);
+        Due.is("seed " + seed + ", " + cell.callsLeft() + " calls before the end: " + call, cell.ask(call), call.on(model));
     }
 
     /** Mostly from least to most, now and then just outside or far away. */
@@ -56,122 +66,96 @@ public final class RandomRunsTest {
     }
 
     private int column() {
-        return in(0, columns >= 1 && columns <= 8 ? columns - 1 : 0);
+        return in(0, model.columns() - 1);
     }
 
-    private static long bit(boolean b) {
-        return b ? 1 : 0;
-    }
-
-    private void call(String at) {
+    private void step() {
         int way = random.nextInt(24);
         if (way < 12) {
-            tell(at, way);
+            tell(way);
         } else if (way < 18) {
-            ask(at, way);
+            ask(way);
         } else if (way < 22) {
-            surfaces(at, way);
+            surfaces(way);
         } else {
-            fits(at);
+            fits();
         }
     }
 
-    private void tell(String at, int way) {
-        int c = column();
-        int k = in(0, 3);
+    private void tell(int way) {
         if (way <= 2) {
-            long kg = random.nextBoolean() ? wide(1, 1000000) : wide(1, 5000);
-            Due.is(at + "layer", x.layer(c, k, kg), model.layer(c, k, kg));
+            both("layer", column(), in(0, 3), random.nextBoolean() ? wide(1, 1000000) : wide(1, 5000));
         } else if (way == 3) {
-            int v = in(100, 3000);
-            Due.is(at + "density", bit(x.density(k, v)), model.density(k, v));
+            both("density", in(0, 3), in(100, 3000));
         } else if (way <= 5) {
             long load = random.nextInt(3) == 0 ? wide(0, 100000000) : wide(0, 20000);
-            int t = in(0, random.nextBoolean() ? 30 : 300);
-            Due.is(at + "row", bit(x.row(k, load, t)), model.row(k, load, t));
+            both("row", in(0, 3), load, in(0, random.nextBoolean() ? 30 : 300));
         } else if (way <= 7) {
-            int passes = in(1, 20);
-            Due.is(at + "roll", bit(x.roll(c, passes)), model.roll(c, passes));
+            both("roll", column(), in(1, 20));
         } else if (way == 8) {
-            int years = random.nextInt(8) == 0 ? in(1, 50) : in(1, 4);
-            Due.is(at + "run", x.run(years), model.run(years));
+            both("run", random.nextInt(8) == 0 ? in(1, 50) : in(1, 4));
         } else if (way == 9) {
-            int mm = in(1, 10000);
-            Due.is(at + "cover", bit(x.cover(c, mm)), model.cover(c, mm));
+            both("cover", column(), in(1, 10000));
         } else {
-            survey(at, c);
+            survey(column());
         }
     }
 
     /** Mostly near the height, so that a fit has a slope to go down. */
-    private void survey(String at, int c) {
+    private void survey(int c) {
         if (random.nextInt(4) == 0) {
             return;
         }
         long height = Math.max(0, model.height(c)) / 1000;
         long near = Math.min(1000000000, height * (80 + random.nextInt(30)) / 100);
-        long told = random.nextInt(5) == 0 ? wide(0, 1000000000) : near;
-        Due.is(at + "survey", x.survey(c, told), model.survey(c, told));
+        both("survey", c, random.nextInt(5) == 0 ? wide(0, 1000000000) : near);
     }
 
-    private void ask(String at, int way) {
+    private void ask(int way) {
         int c = column();
-        int k = in(0, 3);
-        int n = in(0, 9);
         if (way == 12) {
-            Due.is(at + "height", x.height(c), model.height(c));
+            both("height", c);
         } else if (way == 13) {
-            Due.is(at + "thickness", x.thickness(c, n), model.thickness(c, n));
+            both("thickness", c, in(0, 9));
         } else if (way == 14) {
-            Due.is(at + "mass", x.mass(c, k), model.mass(c, k));
-            Due.is(at + "covered", x.covered(c), model.covered(c));
+            both("mass", c, in(0, 3));
+            both("covered", c);
         } else if (way == 15) {
-            int to = column();
-            long slope = random.nextInt(5) == 0 ? wide(0, 1000000000) : wide(0, 3000000);
-            Due.is(at + "phase", x.phase(c, to, slope), model.phase(c, to, slope));
+            both("phase", c, column(), random.nextInt(5) == 0 ? wide(0, 1000000000) : wide(0, 3000000));
         } else if (way == 16) {
-            Due.is(at + "kept", bit(x.kept(k)), model.kept(k));
+            both("kept", in(0, 3));
         } else {
-            long apart = random.nextBoolean() ? wide(0, 20000) : wide(0, 100000000);
-            Due.is(at + "crack", x.crack(n % 4, apart), model.crack(n % 4, apart));
+            both("crack", in(0, 3), random.nextBoolean() ? wide(0, 20000) : wide(0, 100000000));
         }
     }
 
-    private void surfaces(String at, int way) {
-        int a = in(0, 3);
-        int b = in(0, 3);
+    private void surfaces(int way) {
         if (way == 18 && random.nextInt(10) == 0) {
-            Due.is(at + "surface", x.surface(), model.surface());
+            both("surface");
         } else if (way == 19) {
-            int part = in(0, 1);
-            Due.is(at + "room", x.room(a, b, part), model.room(a, b, part));
+            both("room", in(0, 3), in(0, 3), in(0, 1));
         } else {
-            int px = in(0, 4);
-            int py = in(0, fine ? 2 : 4);
-            int z = in(-100000, 100000);
-            Due.is(at + "point", bit(x.point(a, px, py, z)), model.point(a, px, py, z));
+            both("point", in(0, 3), in(0, 4), in(0, fine ? 2 : 4), in(-100000, 100000));
         }
     }
 
-    private void fits(String at) {
-        Due.is(at + "sum", x.sum(), model.sum());
-        int k = in(0, 3);
-        Due.is(at + "factor", x.factor(k), model.factor(k));
+    private void fits() {
+        both("sum");
+        both("factor", in(0, 3));
         sinceFit++;
-        if (sinceFit % 4 == 0) {
-            int rounds = in(1, 5);
-            Due.is(at + "fit", x.fit(rounds), model.fit(rounds));
-            wholeFill(at);
+        if (sinceFit % FIT_EVERY == 0) {
+            both("fit", in(1, 5));
+            wholeFill();
         }
     }
 
-    private void wholeFill(String at) {
-        Due.is(at + "sum after a fit", x.sum(), model.sum());
+    private void wholeFill() {
+        both("sum");
         for (int i = 0; i < 4; i++) {
-            Due.is(at + "factor after a fit", x.factor(i), model.factor(i));
+            both("factor", i);
         }
-        for (int c = 0; c < 8; c++) {
-            Due.is(at + "height after a fit", x.height(c), model.height(c));
+        for (int c = 0; c < columns; c++) {
+            both("height", c);
         }
     }
 }
