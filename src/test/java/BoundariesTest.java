@@ -13,6 +13,7 @@ public final class BoundariesTest {
     public static void main(String[] args) {
         terms();
         told();
+        doneAnew();
         newObject();
         densities();
         rows();
@@ -161,6 +162,16 @@ public final class BoundariesTest {
             "10 * density 0 700 = 1", "surface = 0", "surface = 1", "10 * point 0 1 1 5 = 1", "phase 0 1 5 = 0", "10 * fit 1 = 0",
             "10 * height 0 = 0", "10 * sum = 0", "row 0 -1 0 = 0", "layer 0 0 0 = -1", "roll 0 1 = 0", "run 0 = -1", "cover 0 0 = 0",
             "survey 0 -1 = -1", "199 * cover 0 1 = 1", "10 * fit 5 = 0", "cover 0 1 = 1", "cover 0 1 = 0", "covered 0 = 200");
+    }
+
+    private static void doneAnew() {
+        Run.due("Terms, 'done anew: rows, layers, rollings, runs, covers, surveys, in their order'", 1, 1,
+            "layer 0 0 500 = 0", "run 1 = 1", "row 0 0 100 = 1", "run 1 = 2", "survey 0 895 = 0", "roll 0 1 = 1", "cover 0 9 = 1", "sum = 25",
+            "thickness 0 0 = 787500", "height 0 = 796500", "fit 1 = 1", "factor 0 = 1050", "sum = 0", "thickness 0 0 = 783125", "height 0 = 792125");
+        Run.due("Terms, 'done anew .. from the beginning': nothing is there twice", 1, 1,
+            "row 0 0 100 = 1", "row 0 1 200 = 1", "layer 0 0 500 = 0", "cover 0 9 = 1", "run 1 = 1", "survey 0 909 = 0", "roll 0 1 = 1", "4 * fit 5 = 0",
+            "row 0 2 10 = 1", "row 0 3 10 = 1", "row 0 4 10 = 0", "layer 0 0 500 = 1", "covered 0 = 9", "run 1 = 2", "survey 0 0 = 1", "mass 0 0 = 1000",
+            "thickness 0 0 = 779625", "thickness 0 1 = 900000", "roll 0 1 = 1", "thickness 0 1 = 787500", "sum = 2849344");
     }
 
     private static void newObject() {

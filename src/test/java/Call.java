@@ -1,3 +1,6 @@
+import java.util.ArrayList;
+import java.util.List;
+
 /** One call of the face by its name and numbers, so that runs of calls can be told as text. */
 record Call(String name, long... numbers) {
     /** Of a text such as "layer 0 1 500"; INT_MIN, INT_MAX, LONG_MIN and LONG_MAX are numbers too. */
@@ -8,6 +11,19 @@ record Call(String name, long... numbers) {
             numbers[i] = number(words[i + 1]);
         }
         return new Call(words[0], numbers);
+    }
+
+    /** Of a text such as "layer 0 1 500; 3 * cover 0 7; sum": the second one three times. */
+    static List<Call> run(String text) {
+        List<Call> calls = new ArrayList<>();
+        for (String part : text.isEmpty() ? new String[0] : text.split(";")) {
+            int star = part.indexOf('*');
+            int times = star < 0 ? 1 : Integer.parseInt(part.substring(0, star).trim());
+            for (int i = 0; i < times; i++) {
+                calls.add(of(part.substring(star + 1)));
+            }
+        }
+        return calls;
     }
 
     static long number(String word) {

@@ -1,4 +1,3 @@
-import java.util.ArrayList;
 import java.util.List;
 
 /**
@@ -45,7 +44,7 @@ public final class GridTest {
     private final String name;
     private final int columns;
     private final int side;
-    private final List<Call> script = new ArrayList<>();
+    private final List<Call> script;
     private final PlainModel model;
     private final List<Long> looks;
     private final List<Long> goesOn;
@@ -54,13 +53,7 @@ public final class GridTest {
         this.name = name;
         this.columns = columns;
         this.side = side;
-        for (String line : text.isEmpty() ? new String[0] : text.split(";")) {
-            int star = line.indexOf('*');
-            int times = star < 0 ? 1 : Integer.parseInt(line.substring(0, star).trim());
-            for (int i = 0; i < times; i++) {
-                script.add(Call.of(line.substring(star + 1)));
-            }
-        }
+        script = Call.run(text);
         model = new PlainModel(columns, side);
         script.forEach(call -> call.on(model));
         looks = Looks.at(model.columns(), call -> call.on(model));

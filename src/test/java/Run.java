@@ -28,28 +28,25 @@ final class Run {
 
     private void line(Cell cell, String line) {
         String[] halves = line.split("=");
-        int star = halves[0].indexOf('*');
-        int times = star < 0 ? 1 : Integer.parseInt(halves[0].substring(0, star).trim());
-        Call call = Call.of(halves[0].substring(star + 1));
         long answer = Call.number(halves[1].trim());
-        for (int i = 0; i < times; i++) {
+        for (Call call : Call.run(halves[0])) {
             Due.is(sentence + ": " + call, cell.ask(call), answer);
-            if (call.isRefusal(answer) && i == 0) {
-                changesNothing(sentence, columns, side, before, call);
+            if (call.isRefusal(answer)) {
+                changesNothing(call);
             }
             before.add(call);
         }
     }
 
-    /** A call that is refused behind others: on new objects, as it takes many calls to see it. */
-    static void changesNothing(String sentence, int columns, int side, List<Call> others, Call refused) {
+    /** On new objects, as it takes many calls to see it. */
+    private void changesNothing(Call refused) {
         int count = columns >= 1 && columns <= 8 ? columns : 1;
-        Cell looked = new Cell(columns, side, others);
-        List<Long> before = Looks.at(count, looked::ask);
+        Cell looked = new Cell(columns, side, before);
+        List<Long> seen = Looks.at(count, looked::ask);
         looked.ask(refused);
-        Due.same(sentence + ": same behind " + refused, Looks.at(count, looked::ask), before);
-        Cell without = new Cell(columns, side, others);
-        Cell with = new Cell(columns, side, others);
+        Due.same(sentence + ": same behind " + refused, Looks.at(count, looked::ask), seen);
+        Cell without = new Cell(columns, side, before);
+        Cell with = new Cell(columns, side, before);
         with.ask(refused);
         Due.same(sentence + ": goes on the same behind " + refused, Looks.goingOn(count, with::ask), Looks.goingOn(count, without::ask));
     }
