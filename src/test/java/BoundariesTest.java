@@ -306,6 +306,10 @@ public final class BoundariesTest {
             "room 0 0 0 = LONG_MIN", "surface = 0", "room 0 0 0 = 0", "room 1 1 0 = LONG_MIN", "surface = 1", "room 1 1 0 = 0",
             "surface = 2", "room 3 3 0 = LONG_MIN", "surface = 3", "room 3 3 0 = 0", "surface = -1", "room 4 4 0 = LONG_MIN", "surface = -1",
             "point 3 0 0 1 = 1", "point 4 0 0 1 = 0");
+        Run.due("Promise 13, a fifth surface leaves the four as they are", 1, 1,
+            "surface = 0", "surface = 1", "surface = 2", "surface = 3", "point 0 0 0 1 = 1", "point 0 0 1 1 = 1", "point 0 1 0 1 = 1", "point 0 1 1 1 = 1",
+            "point 3 0 0 9 = 1", "point 3 0 1 9 = 1", "point 3 1 0 9 = 1", "point 3 1 1 9 = 1", "room 0 3 0 = 8", "surface = -1", "room 0 3 0 = 8",
+            "room 3 0 0 = -8", "room 1 2 0 = 0");
     }
 
     private static void points() {
@@ -426,8 +430,8 @@ public final class BoundariesTest {
             "kept 0 = 0", "phase 0 1 0 = 0", "phase 0 1 1000000000 = 1", "phase 0 1 -1 = -1", "phase 0 1 1000000001 = -1",
             "kept 0 = 1", "kept 1 = 1", "kept 2 = 0", "layer 0 0 500000 = 0", "kept 0 = 0", "kept 1 = 1", "layer 0 0 1 = 1", "kept 1 = 0");
         Run.due("Promise 16, 'Answers its number; NONE when there are 4'", 2, 1,
-            "kept 0 = 0", "phase 0 1 1 = 0", "kept 0 = 1", "kept 1 = 0", "phase 0 1 2 = 1", "phase 0 0 3 = 2", "phase 1 1 4 = 3",
-            "kept 3 = 1", "phase 0 1 5 = -1", "phase 0 0 0 = -1", "kept 4 = 0");
+            "cover 0 1 = 1", "kept 0 = 0", "phase 0 1 1000 = 0", "kept 0 = 1", "kept 1 = 0", "phase 0 1 999 = 1", "kept 1 = 0", "phase 0 0 3 = 2",
+            "phase 0 1 1001 = 3", "kept 3 = 1", "phase 0 1 5 = -1", "phase 0 0 0 = -1", "kept 4 = 0", "kept 0 = 1", "kept 1 = 0", "kept 2 = 1", "kept 3 = 1");
     }
 
     private static void keptOnes() {
