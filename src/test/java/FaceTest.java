@@ -63,7 +63,8 @@ public final class FaceTest {
         Due.is("methods that are missing: " + due, due.size(), 0);
         Constructor<?>[] made = c.getDeclaredConstructors();
         Due.is("constructors", made.length, 1);
-        Due.is("their parameters", made[0].getParameterCount(), 2);
+        Due.same("the constructor", made[0].toString(), "public CellSettling(int,int)");
+        Due.is("NONE", CellSettling.NONE, -1);
         for (Field f : c.getDeclaredFields()) {
             boolean isNone = f.getName().equals("NONE");
             Due.is("rule 1: " + f, Modifier.isPublic(f.getModifiers()) ? 1 : 0, isNone ? 1 : 0);
